@@ -174,7 +174,7 @@ public final class NineValues {
     if (k < 0 || k > word.size || n < 0 || n > word.size - k) {
       throw new IndexOutOfBoundsException("the word has no such elements");
     }
-    answer.become(n, X);
+    answer.size = n;
     answer.lay(word, k, n, 0);
     places[to].copy(answer);
   }
@@ -263,7 +263,7 @@ public final class NineValues {
     if (a.size != b.size) {
       throw new IllegalArgumentException("the words have not the same length");
     }
-    answer.become(a.size, X);
+    answer.size = a.size;
     for (int k = 0; k < a.size; k++) {
       answer.elements[k] = Wire.join(operation, a.elements[k], b.elements[k]);
     }
@@ -271,7 +271,7 @@ public final class NineValues {
 
   private void setBehind(Word a, Word b) {
     requireLength(a.size + b.size);
-    answer.become(a.size + b.size, X);
+    answer.size = a.size + b.size;
     answer.lay(b, 0, b.size, 0);
     answer.lay(a, 0, a.size, b.size);
   }
@@ -339,7 +339,7 @@ public final class NineValues {
   }
 
   private void changeElements(int kind, Word word) {
-    answer.become(word.size, X);
+    answer.size = word.size;
     for (int k = 0; k < word.size; k++) {
       int value = word.elements[k];
       answer.elements[k] = kind == TURN ? Wire.not(value) : Wire.strip(kind, value);
@@ -368,7 +368,7 @@ public final class NineValues {
 
   /** By left below 0 the elements go to the right. */
   private void turnRound(int left, Word word) {
-    answer.become(word.size, X);
+    answer.size = word.size;
     for (int k = 0; k < word.size; k++) {
       answer.elements[k] = word.elements[Math.floorMod(k - left, word.size)];
     }

@@ -1,14 +1,14 @@
 import java.util.Random;
 import java.util.function.Supplier;
 
-/** Long mixed runs of calls, right and wrong ones: each answer and the words at the end are held against the Model's. */
+/** Long mixed runs of calls, right and wrong ones: answers, and the words at the end, are held against the Model's. */
 public final class MixedRunsTest {
   private static final int RUNS = 3000;
 
   /** So many that the reading of all places at the end stays below an object's 512 calls. */
   private static final int CALLS = 200;
 
-  /** Few places, so that calls meet one another's words; each place there may be used, but rarely a wrong one. */
+  /** Few places, so that calls meet one another's words. */
   private static final int[] USED = {0, 1, 2, 15};
 
   private final Random random;
