@@ -6,6 +6,7 @@ public final class NineValues {
   private static final int PLACES = 16;
   private static final int LONGEST = 64;
   private static final int FARTHEST = 1000;
+  private static final long BIT_63 = 1L << 63;
 
   private static final int U = 0;
   private static final int X = 1;
@@ -187,8 +188,10 @@ public final class NineValues {
     }
     long p = places[a].asLong(signed);
     long q = places[b].asLong(signed);
-    int order = signed ? Long.compare(p, q) : Long.compareUnsigned(p, q);
-    return Integer.signum(order);
+    if (p == q) {
+      return 0;
+    }
+    return (signed ? p < q : isBelowUnsigned(p, q)) ? -1 : 1;
   }
 
   public boolean same(boolean matched, int a, int b) throws IndexOutOfBoundsException {
@@ -335,7 +338,24 @@ public final class NineValues {
 
   /** The divisor q is not 0. Without signs the modulus is the remainder. */
   private static long divideUnsigned(int operation, long p, long q) {
-    return operation == QUOTIENT ? Long.divideUnsigned(p, q) : Long.remainderUnsigned(p, q);
+    long quotient = quotientUnsigned(p, q);
+    return operation == QUOTIENT ? quotient : p - quotient * q;
+  }
+
+  /** The divisor q is not 0. */
+  private static long quotientUnsigned(long p, long q) {
+    if (q <= 0L) {
+      // From 2^63 on, q goes into no number of 64 bits twice.
+      return isBelowUnsigned(p, q) ? 0L : 1L;
+    }
+    // Half of p has no bit 63, so that it can be divided with signs; twice that quotient is at most 1 too small.
+    long quotient = (p >>> 1) / q << 1;
+    return isBelowUnsigned(p - quotient * q, q) ? quotient : quotient + 1L;
+  }
+
+  /** Numbers from 2^63 on are longs below 0: with bit 63 turned in both, all stand in their order. */
+  private static boolean isBelowUnsigned(long p, long q) {
+    return (p ^ BIT_63) < (q ^ BIT_63);
   }
 
   private void changeElements(int kind, Word word) {
