@@ -1,4 +1,7 @@
+import java.util.ArrayList;
+import java.util.List;
 import java.util.Objects;
+import java.util.function.Consumer;
 
 /** Holds answers against those that are due, prints each that is not, and ends the test with code 1 if one was not. */
 final class Check {
@@ -17,6 +20,9 @@ final class Check {
   private static int right = 0;
   private static int wrong = 0;
 
+  /** What each wrong answer is told under. */
+  private static String heading = "";
+
   private Check() {}
 
   static void due(String what, Object got, Object want) {
@@ -24,8 +30,16 @@ final class Check {
       right++;
     } else {
       wrong++;
-      System.out.println(what + " answered " + got + ", due is " + want);
+      System.out.println(heading + what + " answered " + got + ", due is " + want);
     }
+  }
+
+  static void under(String text) {
+    heading = text;
+  }
+
+  static int answers() {
+    return right + wrong;
   }
 
   /** What a call throws: the class itself is held against the one that is due, not one below it. */
@@ -45,6 +59,15 @@ final class Check {
 
   static void illegalArgument(String what, Runnable call) {
     thrown(what, IllegalArgumentException.class, call);
+  }
+
+  /** That a call on a new object that holds these words throws just this, and changes no place. */
+  static void refused(
+      String what, Class<? extends RuntimeException> want, Consumer<NineValues> call, String... words) {
+    NineValues x = holding(words);
+    List<String> before = readAll(x);
+    thrown(what, want, () -> call.accept(x));
+    due(what + " leaves all places", readAll(x), before);
   }
 
   /** A new object whose first places hold these words, written as letters with the last element first. */
@@ -70,6 +93,14 @@ final class Check {
       word.append(LETTERS.charAt(x.get(place, k)));
     }
     return word.toString();
+  }
+
+  static List<String> readAll(NineValues x) {
+    List<String> words = new ArrayList<>();
+    for (int place = 0; place < 16; place++) {
+      words.add(read(x, place));
+    }
+    return words;
   }
 
   /** That the first places of an object hold these words. */
