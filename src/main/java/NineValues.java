@@ -145,14 +145,7 @@ public final class NineValues {
     if (n < -FARTHEST || n > FARTHEST) {
       throw new IllegalArgumentException("a shift goes by -1000 to 1000");
     }
-    int left = kind == LEFT || kind == ROUND_LEFT ? n : -n;
-    if (kind == ROUND_LEFT || kind == ROUND_RIGHT) {
-      turnRound(left, places[a]);
-    } else if (kind == RIGHT_WITH_LAST) {
-      move(left, n < 0 ? ZERO : places[a].last(), places[a]);
-    } else {
-      move(left, value, places[a]);
-    }
+    moveBy(kind, n, value, places[a]);
     places[to].copy(answer);
   }
 
@@ -373,6 +366,25 @@ public final class NineValues {
     }
     long v = word.asLong(true);
     answer.hold(word.size, kind == NEGATE || v < 0 ? -v : v);
+  }
+
+  private void moveBy(int kind, int n, int value, Word word) {
+    switch (kind) {
+      case LEFT:
+        move(n, value, word);
+        break;
+      case RIGHT:
+        move(-n, value, word);
+        break;
+      case RIGHT_WITH_LAST:
+        move(-n, n < 0 ? ZERO : word.last(), word);
+        break;
+      case ROUND_LEFT:
+        turnRound(n, word);
+        break;
+      default:
+        turnRound(-n, word);
+    }
   }
 
   /** By left below 0 the elements go to the right. */

@@ -1,6 +1,7 @@
 import java.io.IOException;
 import java.nio.file.Files;
 import java.nio.file.Path;
+import java.util.ArrayList;
 import java.util.Arrays;
 import java.util.LinkedHashMap;
 import java.util.List;
@@ -10,7 +11,7 @@ import java.util.Map;
 final class Document {
   private static final Path PATH = Path.of("../shared/DOC.md");
 
-  /** Of these sections no sentence tells what a call does. */
+  /** Of these sections no sentence tells what a call does; FaceTest has the public face. */
   private static final List<String> WITHOUT_TESTS = List.of("What it is", "The public face", "Not promised");
 
   private Document() {}
@@ -31,6 +32,23 @@ final class Document {
         Check.due(heading + ": words without a test", left.replaceAll("[^\\w]+", " ").strip(), "");
       }
     }
+  }
+
+  /** The face as the document writes it out, line by line, is the one that is tested. */
+  static void holdFaceAgainst(String constructor, List<String> methods) throws IOException {
+    if (!Files.exists(PATH)) {
+      System.out.println(PATH + " is not there: the face is not held against it");
+      return;
+    }
+    List<String> tested = new ArrayList<>(List.of(constructor));
+    tested.addAll(methods);
+    List<String> written = new ArrayList<>();
+    for (String line : Files.readString(PATH).split("```")[1].split("\n")) {
+      if (line.endsWith(";")) {
+        written.add(line.replace(";", "").strip());
+      }
+    }
+    Check.due("the document's face", written, tested);
   }
 
   /** By heading, in one line each, without the method's face in front of its promise. */
